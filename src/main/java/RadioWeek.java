@@ -183,7 +183,7 @@ public final class RadioWeek {
             case 2:
                 return now.items.length[item];
             case 3:
-                return fixedNumber(item);
+                return now.items.fixed[item];
             case 4:
                 shareRights();
                 return uses.right[item];
@@ -309,7 +309,7 @@ public final class RadioWeek {
             print = 31 * print + now.items.programme[i];
             print = 31 * print + now.items.start[i];
             print = 31 * print + now.items.length[i];
-            print = 31 * print + fixedNumber(i);
+            print = 31 * print + now.items.fixed[i];
             print = 31 * print + uses.right[i];
         }
         for (int p = 0; p < now.programmes.count; p++) {
@@ -455,7 +455,7 @@ public final class RadioWeek {
         if (kindOf(item) == FILLER) {
             return false;
         }
-        return now.items.fixed[item] ? cut(item, time) : push(item, time);
+        return now.items.fixed[item] == 1 ? cut(item, time) : push(item, time);
     }
 
     private boolean cut(int item, int time) {
@@ -493,10 +493,6 @@ public final class RadioWeek {
         return now.programmes.kind[now.items.programme[item]];
     }
 
-    private int fixedNumber(int item) {
-        return now.items.fixed[item] ? 1 : 0;
-    }
-
     /** Shares all rights among all items; an item's entry has the item's number. */
     private void shareRights() {
         uses.clear();
@@ -529,7 +525,7 @@ public final class RadioWeek {
         writeTwoDigits(minuteOfDay % 60);
         text.append(" +").append(now.items.length[item]);
         text.append(" P").append(now.items.programme[item]);
-        if (now.items.fixed[item]) {
+        if (now.items.fixed[item] == 1) {
             text.append('!');
         }
     }
@@ -637,7 +633,8 @@ public final class RadioWeek {
         final int[] programme = new int[MAX_ITEMS];
         final int[] start = new int[MAX_ITEMS];
         final int[] length = new int[MAX_ITEMS];
-        final boolean[] fixed = new boolean[MAX_ITEMS];
+        /** 1 if it is fixed, otherwise 0. */
+        final int[] fixed = new int[MAX_ITEMS];
 
         int end(int item) {
             return start[item] + length[item];
@@ -703,7 +700,7 @@ public final class RadioWeek {
             programme[at] = itsProgramme;
             start[at] = itsStart;
             length[at] = itsLength;
-            fixed[at] = isFixed;
+            fixed[at] = isFixed ? 1 : 0;
             count++;
         }
 

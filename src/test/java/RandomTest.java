@@ -1,4 +1,7 @@
-/** Long runs of calls, the same ones each time, on RadioWeek and on PlainWeek, whose answers must be the same. */
+/**
+ * Long runs of calls, the same ones each time, on RadioWeek and on PlainWeek, whose answers must be the same.
+ * An argument gives another number of runs.
+ */
 public final class RandomTest {
     private static final int RUNS = 2500;
     private static final int CALLS = 512;
@@ -209,7 +212,9 @@ public final class RandomTest {
         } else if (dice < 158) {
             makeGood();
         } else if (dice < 162) {
-            earliest();
+            for (int times = run % 10 == 0 ? 10 : 1; times > 0; times--) {
+                earliest();
+            }
         } else if (dice < 174) {
             int item = anItem();
             is("remove(" + item + ")", week.remove(item), plain.remove(item));
@@ -236,7 +241,8 @@ public final class RandomTest {
 
     public static void main(String[] args) {
         Due due = new Due("RandomTest");
-        for (int run = 1; run <= RUNS && due.wrong() == 0; run++) {
+        int runs = args.length > 0 ? Integer.parseInt(args[0]) : RUNS;
+        for (int run = 1; run <= runs && due.wrong() == 0; run++) {
             new RandomTest(due, run).go();
         }
         due.holds("many items ran over (" + overruns + ", " + overrunsWithDrops + " with drops)",
