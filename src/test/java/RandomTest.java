@@ -4,10 +4,14 @@
  */
 public final class RandomTest {
     private static final int RUNS = 2500;
+    /** The document promises nothing of an object after so many calls. */
     private static final int CALLS = 512;
+    /** The most calls that oneCall() makes: it asks for everything and then for the fingerprint. */
+    private static final int CALLS_AT_ONCE = 41;
 
     private final Due due;
     private final int run;
+    private int calls;
     private long seed;
     private final RadioWeek week = new RadioWeek();
     private final PlainWeek plain = new PlainWeek();
@@ -63,7 +67,9 @@ public final class RandomTest {
         return items == 0 || upTo(50) == 0 ? from(-1, 60) : upTo(items - 1);
     }
 
+    /** Each call on the week is compared once. */
     private void is(String call, long got, long want) {
+        calls++;
         due.is("run " + run + ": " + call, got, want);
     }
 
@@ -234,9 +240,10 @@ public final class RandomTest {
 
     private void go() {
         begin();
-        for (int i = 0; i < CALLS / 2 && due.wrong() == 0; i++) {
+        while (calls <= CALLS - CALLS_AT_ONCE && due.wrong() == 0) {
             oneCall();
         }
+        due.holds("run " + run + " has no more calls than are promised", calls <= CALLS);
     }
 
     public static void main(String[] args) {
